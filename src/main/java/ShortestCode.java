@@ -47,7 +47,7 @@ public final class ShortestCode {
     private final Row program = new Row();
     private final Row found = new Row();
     private final boolean[] needed = new boolean[MOST_VALUES];
-    private final Hunt hunt = new Hunt(costs, target);
+    private final Hunt hunt = new Hunt();
     private boolean anyFound;
 
     public ShortestCode() {
@@ -225,7 +225,8 @@ public final class ShortestCode {
         if (all != 0 && all != 1) {
             return OUTSIDE;
         }
-        int answer = hunt.run(values, cost, tries, all == 1);
+        hunt.prepare(values, costs, target);
+        int answer = hunt.run(cost, tries, all == 1);
         if (answer >= 0) {
             found.copyFrom(hunt.first);
             anyFound = true;
@@ -537,8 +538,8 @@ public final class ShortestCode {
 
     /** THE SEARCH, and what is told of the latest one. */
     private static final class Hunt {
-        private final int[] costs;
-        private final int[] target;
+        private final int[] costs = new int[OPERATIONS];
+        private final int[] target = new int[MOST_ASSIGNMENTS];
         private final Values values = new Values();
         private final Row row = new Row();
         private final Row first = new Row();
@@ -550,13 +551,13 @@ public final class ShortestCode {
         private int hits;
         private int answer = NOT_NOW;
 
-        private Hunt(int[] costs, int[] target) {
-            this.costs = costs;
-            this.target = target;
+        private void prepare(Values from, int[] newCosts, int[] newTarget) {
+            values.copyGiven(from);
+            System.arraycopy(newCosts, 0, costs, 0, OPERATIONS);
+            System.arraycopy(newTarget, 0, target, 0, MOST_ASSIGNMENTS);
         }
 
-        private int run(Values from, int mostCost, int triesAllowed, boolean all) {
-            values.copyGiven(from);
+        private int run(int mostCost, int triesAllowed, boolean all) {
             mostTries = triesAllowed;
             wantsAll = all;
             spent = false;
