@@ -8,6 +8,16 @@ final class Check {
         this.test = test;
     }
 
+    /** A new object with these words and constants. */
+    static ShortestCode bench(int w, int n, int... constants) {
+        ShortestCode x = new ShortestCode();
+        x.words(w, n);
+        for (int c : constants) {
+            x.constant(c);
+        }
+        return x;
+    }
+
     void due(String call, int got, int want) {
         made++;
         if (got != want) {
@@ -28,7 +38,7 @@ final class Check {
         return wrong;
     }
 
-    /** All that count() and instruction() tell: W, INPUTS, CONSTANTS, RESULT, INSTRUCTIONS by three numbers each. */
+    /** THE PROGRAM: RESULT, and three numbers for each INSTRUCTION. */
     void program(String when, ShortestCode x, int result, int... instructions) {
         due(when + ": count(3)", x.count(3), instructions.length / 3);
         due(when + ": count(4)", x.count(4), result);

@@ -24,15 +24,6 @@ public final class SearchTest {
         check.end();
     }
 
-    private static ShortestCode bench(int w, int n, int... constants) {
-        ShortestCode x = new ShortestCode();
-        x.words(w, n);
-        for (int c : constants) {
-            x.constant(c);
-        }
-        return x;
-    }
-
     /** All OPERATIONS are BARRED but these, told with their COSTS. */
     private static void only(ShortestCode x, int... costs) {
         for (int operation = 0; operation < 13; operation++) {
@@ -59,7 +50,7 @@ public final class SearchTest {
     }
 
     private static void costZero() {
-        ShortestCode x = bench(3, 2, 6, 0, 0);
+        ShortestCode x = Check.bench(3, 2, 6, 0, 0);
         check.due("15 CONSTANT 0", x.search(0, 0, 0), 0);
         check.told("15 CONSTANT 0", x, 0, 0, 1, 0);
         check.due("15 take()", x.take(), 0);
@@ -87,14 +78,14 @@ public final class SearchTest {
         int[] single = {0, 1, 4, 5, 7, 8, 9, 10, 12};
         int[] tries = {1, 2, 5, 6, 8, 9, 10, 11, 13};
         for (int i = 0; i < single.length; i++) {
-            ShortestCode x = bench(4, 1);
+            ShortestCode x = Check.bench(4, 1);
             aimAt(x, single[i], 0, 0);
             check.due("15 operation " + single[i], x.search(1, 30000, 0), 1);
             check.told("15 operation " + single[i], x, tries[i], 1, 1, 1);
             check.due("15 take()", x.take(), 1);
             check.program("15 operation " + single[i], x, 1, single[i], 0, 0);
         }
-        ShortestCode x = bench(4, 2, 5);
+        ShortestCode x = Check.bench(4, 2, 5);
         only(x, 6, 1);
         for (int a = 0; a < 3; a++) {
             for (int b = 0; b < 3; b++) {
@@ -114,7 +105,7 @@ public final class SearchTest {
     private static void whatIsNotLookedAt() {
         int[] due = {4, 4, 10, 10, 10, 10, 16, 10, 16, 16, 16, 16, 10};
         for (int operation = 0; operation < 13; operation++) {
-            ShortestCode x = bench(4, 2, 5, 6);
+            ShortestCode x = Check.bench(4, 2, 5, 6);
             x.target(0, 3);
             x.target(200, 11);
             only(x, operation, 1);
@@ -127,7 +118,7 @@ public final class SearchTest {
     }
 
     private static void totals() {
-        ShortestCode x = bench(4, 1);
+        ShortestCode x = Check.bench(4, 1);
         only(x, 0, 2, 1, 3);
         // -(~a) is a + 1; NOT costs 2, NEG 3, so it costs 5.
         x.add(0, 0, 0);
@@ -156,19 +147,19 @@ public final class SearchTest {
 
     /** NOT alone: the second NOT makes INPUT 0 again, and nothing stands behind it. */
     private static void noValueTwice() {
-        ShortestCode x = bench(4, 1);
+        ShortestCode x = Check.bench(4, 1);
         only(x, 0, 1);
         aimNowhere(x);
         check.due("15 NOT alone", x.search(5, 30000, 0), -5);
         // Round 1: 1; round 2: NOT 0, then NOT 0, NOT 1: 3; each round later: the same 3.
         check.told("15 NOT alone", x, 13, 5, 0, -5);
         // A CONSTANT that NOT makes of another is a VALUE before it, too.
-        x = bench(1, 1, 0, 1);
+        x = Check.bench(1, 1, 0, 1);
         x.target(0, 0);
         x.target(1, 0);
         only(x, 0, 1);
         check.due("15 COST 0", x.search(2, 100, 0), 0);
-        x = bench(2, 1, 0, 3);
+        x = Check.bench(2, 1, 0, 3);
         x.target(0, 2);
         only(x, 0, 1);
         check.due("15 CONSTANTS", x.search(2, 100, 0), -5);
@@ -177,7 +168,7 @@ public final class SearchTest {
     }
 
     private static void afterOtherWords() {
-        ShortestCode x = bench(4, 1);
+        ShortestCode x = Check.bench(4, 1);
         aimAt(x, 0, 0, 0);
         check.due("15 one INPUT", x.search(1, 100, 0), 1);
         x.words(2, 2);
@@ -197,7 +188,7 @@ public final class SearchTest {
     }
 
     private static void programIsNotLookedAt() {
-        ShortestCode x = bench(4, 1);
+        ShortestCode x = Check.bench(4, 1);
         x.add(0, 0, 0);
         x.add(1, 1, 0);
         x.aim();
@@ -210,7 +201,7 @@ public final class SearchTest {
     }
 
     private static void first() {
-        ShortestCode x = bench(3, 1);
+        ShortestCode x = Check.bench(3, 1);
         // a + a, a * 2 and a moved by 1 are all the same; the sum stands first.
         x.constant(2);
         x.constant(1);
@@ -223,7 +214,7 @@ public final class SearchTest {
     }
 
     private static void all() {
-        ShortestCode x = bench(3, 1, 2, 1);
+        ShortestCode x = Check.bench(3, 1, 2, 1);
         aimAt(x, 8, 0, 2);
         check.due("15 ALL", x.search(3, 30000, 1), 1);
         // 3 NOT and NEG each, 6 of six OPERATIONS, 9 of the other five.
@@ -231,7 +222,7 @@ public final class SearchTest {
         x.take();
         check.program("15 the first counts", x, 3, 5, 0, 0);
         // In the round in which it is: all its rows, whatever stands before the last.
-        x = bench(4, 1);
+        x = Check.bench(4, 1);
         only(x, 0, 1, 1, 1);
         x.add(0, 0, 0);
         x.add(1, 1, 0);
@@ -239,7 +230,7 @@ public final class SearchTest {
         check.due("15 ALL of round 2", x.search(9, 30000, 1), 2);
         // Round 1: 2. Round 2: NOT 0 and NOT 0, NOT 1, NEG 0, NEG 1; NEG 0 and as many.
         check.told("15 ALL of round 2", x, 12, 2, 1, 2);
-        x = bench(2, 1, 0);
+        x = Check.bench(2, 1, 0);
         only(x, 6, 1, 5, 1);
         aimAt(x, 1, 0, 0);
         check.due("15 0 - a", x.search(5, 30000, 1), 1);
@@ -247,7 +238,7 @@ public final class SearchTest {
     }
 
     private static void spent() {
-        ShortestCode x = bench(4, 1);
+        ShortestCode x = Check.bench(4, 1);
         aimAt(x, 5, 0, 0);
         check.due("15 5 TRIES", x.search(1, 5, 0), -6);
         check.told("15 5 TRIES", x, 5, 1, 0, -6);
@@ -271,7 +262,7 @@ public final class SearchTest {
     }
 
     private static void spentAfterFound() {
-        ShortestCode x = bench(4, 1);
+        ShortestCode x = Check.bench(4, 1);
         aimAt(x, 5, 0, 0);
         check.due("15 SPENT behind it", x.search(1, 12, 1), -6);
         check.told("15 SPENT behind it", x, 12, 1, 1, -6);
@@ -290,13 +281,13 @@ public final class SearchTest {
      * are gone through first. That a 13th place is not filled shows in no answer that is known here.
      */
     private static void longRows() {
-        ShortestCode x = bench(1, 1);
+        ShortestCode x = Check.bench(1, 1);
         only(x, 12, 1);
         x.target(0, 1);
         // a = a is 1 always, a = 1 is a again: round 1 has 1 TRY, each later one 1 and 3 behind it.
         check.due("15 alike alone", x.search(30, 30000, 0), -5);
         check.told("15 alike alone", x, 1 + 29 * 4, 30, 0, -5);
-        x = bench(4, 1);
+        x = Check.bench(4, 1);
         only(x, 0, 9);
         aimNowhere(x);
         // Rounds 1 .. 8: none; 9 .. 17: NOT 0; 18 .. 30: NOT 0 and two behind it.
@@ -316,7 +307,7 @@ public final class SearchTest {
     }
 
     private static void allBarred() {
-        ShortestCode x = bench(4, 2);
+        ShortestCode x = Check.bench(4, 2);
         only(x);
         x.target(7, 7);
         check.due("15 all BARRED", x.search(7, 0, 0), -5);
@@ -327,7 +318,7 @@ public final class SearchTest {
     }
 
     private static void outside() {
-        ShortestCode x = bench(4, 1);
+        ShortestCode x = Check.bench(4, 1);
         aimAt(x, 0, 0, 0);
         check.due("15 search", x.search(1, 2, 0), 1);
         int[][] wrong = {
@@ -345,7 +336,7 @@ public final class SearchTest {
     }
 
     private static void told() {
-        ShortestCode x = bench(4, 1);
+        ShortestCode x = Check.bench(4, 1);
         check.told("16 before any", x, 0, 0, 0, -3);
         x.search(31, 0, 0);
         check.told("16 before any but -2", x, 0, 0, 0, -3);
@@ -364,7 +355,7 @@ public final class SearchTest {
     }
 
     private static void take() {
-        ShortestCode x = bench(4, 2, 3);
+        ShortestCode x = Check.bench(4, 2, 3);
         check.due("17 nothing yet", x.take(), -3);
         aimAt(x, 7, 1, 2);
         check.due("17 search", x.search(1, 30000, 0), 1);
