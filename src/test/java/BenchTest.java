@@ -77,7 +77,7 @@ public final class BenchTest {
     }
 
     private static void wordsForget() {
-        ShortestCode x = Check.bench(2, 2, 3, 1);
+        ShortestCode x = Bench.of(2, 2, 3, 1);
         x.cost(5, 7);
         x.cost(6, 0);
         x.add(3, 0, 1);
@@ -107,7 +107,7 @@ public final class BenchTest {
     }
 
     private static void constant() {
-        ShortestCode x = Check.bench(3, 2);
+        ShortestCode x = Bench.of(3, 2);
         check.due("3 constant(-1)", x.constant(-1), -2);
         check.due("3 constant(8)", x.constant(8), -2);
         check.due("3 constant(MIN)", x.constant(MIN), -2);
@@ -136,7 +136,7 @@ public final class BenchTest {
     }
 
     private static void foundIsGone() {
-        ShortestCode x = Check.bench(3, 1);
+        ShortestCode x = Bench.of(3, 1);
         x.target(0, 1);
         x.target(5, 3);
         check.due("3 target that nobody makes", x.search(1, 100, 0), -5);
@@ -174,7 +174,7 @@ public final class BenchTest {
     }
 
     private static void target() {
-        ShortestCode x = Check.bench(2, 2);
+        ShortestCode x = Bench.of(2, 2);
         check.due("5 target(15, 3)", x.target(15, 3), 0);
         check.due("5 target(15, 2)", x.target(15, 2), 3);
         check.due("5 target(0, 1)", x.target(0, 1), 0);
@@ -193,7 +193,7 @@ public final class BenchTest {
     }
 
     private static void aim() {
-        ShortestCode x = Check.bench(3, 1, 5);
+        ShortestCode x = Bench.of(3, 1, 5);
         check.due("6 aim() at INPUT 0", x.aim(), 7);
         check.due("6 aim() again", x.aim(), 0);
         check.due("6 as told", x.differ(0, -2), -5);
@@ -212,7 +212,7 @@ public final class BenchTest {
     }
 
     private static void add() {
-        ShortestCode x = Check.bench(4, 2, 3);
+        ShortestCode x = Bench.of(4, 2, 3);
         check.due("7 add(0, 3, 0)", x.add(0, 3, 0), -1);
         check.due("7 add(2, 0, 3)", x.add(2, 0, 3), -1);
         check.due("7 add(-1, 0, 0)", x.add(-1, 0, 0), -1);
@@ -287,7 +287,7 @@ public final class BenchTest {
     }
 
     private static void runs(int w, int operation, int... cases) {
-        ShortestCode x = Check.bench(w, 2);
+        ShortestCode x = Bench.of(w, 2);
         x.add(operation, 0, 1);
         for (int i = 0; i < cases.length; i += 3) {
             int s = cases[i] | cases[i + 1] << w;
@@ -304,7 +304,7 @@ public final class BenchTest {
     }
 
     private static void drop() {
-        ShortestCode x = Check.bench(2, 1, 1);
+        ShortestCode x = Bench.of(2, 1, 1);
         check.due("8 drop() of none", x.drop(), -3);
         x.add(5, 0, 1);
         x.add(5, 2, 1);
@@ -324,7 +324,7 @@ public final class BenchTest {
     }
 
     private static void result() {
-        ShortestCode x = Check.bench(2, 2, 1);
+        ShortestCode x = Bench.of(2, 2, 1);
         x.add(0, 0, 0);
         x.add(1, 1, 0);
         check.due("9 result(2)", x.result(2), 4);
@@ -340,7 +340,7 @@ public final class BenchTest {
     }
 
     private static void instruction() {
-        ShortestCode x = Check.bench(2, 2, 1);
+        ShortestCode x = Bench.of(2, 2, 1);
         check.due("10 none", x.instruction(0, 0), -1);
         x.add(8, 2, 1);
         x.add(11, 3, 0);
@@ -357,7 +357,7 @@ public final class BenchTest {
     }
 
     private static void count() {
-        ShortestCode x = Check.bench(3, 2, 1, 2);
+        ShortestCode x = Bench.of(3, 2, 1, 2);
         x.cost(5, 9);
         x.cost(7, 0);
         x.cost(0, 3);
@@ -381,7 +381,7 @@ public final class BenchTest {
     }
 
     private static void value() {
-        ShortestCode x = Check.bench(2, 2, 2);
+        ShortestCode x = Bench.of(2, 2, 2);
         x.add(5, 0, 1);
         x.add(7, 3, 2);
         check.due("12 INPUT 0", x.value(0, 14), 2);
@@ -406,7 +406,7 @@ public final class BenchTest {
     }
 
     private static void differ() {
-        ShortestCode x = Check.bench(2, 2, 3);
+        ShortestCode x = Bench.of(2, 2, 3);
         x.add(5, 0, 1);
         x.add(6, 3, 1);
         x.add(2, 0, 2);

@@ -8,16 +8,6 @@ final class Check {
         this.test = test;
     }
 
-    /** A new object with these words and constants. */
-    static ShortestCode bench(int w, int n, int... constants) {
-        ShortestCode x = new ShortestCode();
-        x.words(w, n);
-        for (int c : constants) {
-            x.constant(c);
-        }
-        return x;
-    }
-
     void due(String call, int got, int want) {
         made++;
         if (got != want) {

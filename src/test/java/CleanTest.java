@@ -21,7 +21,7 @@ public final class CleanTest {
     }
 
     private static void nothingToDo() {
-        ShortestCode x = Check.bench(3, 2);
+        ShortestCode x = Bench.of(3, 2);
         check.due("14 no INSTRUCTIONS", x.clean(), 0);
         x.add(5, 0, 1);
         x.add(0, 2, 0);
@@ -30,7 +30,7 @@ public final class CleanTest {
     }
 
     private static void repeatedGoes() {
-        ShortestCode x = Check.bench(3, 2);
+        ShortestCode x = Bench.of(3, 2);
         x.add(5, 0, 1); // 2
         x.add(5, 1, 0); // 3 is 2
         x.add(7, 3, 2); // 4
@@ -43,7 +43,7 @@ public final class CleanTest {
     }
 
     private static void leastSuchValue() {
-        ShortestCode x = Check.bench(2, 1, 3, 3);
+        ShortestCode x = Bench.of(2, 1, 3, 3);
         x.add(2, 0, 2); // 3 is 0
         x.add(3, 1, 2); // 4 is 1 and 2: 1 is the least
         x.add(4, 4, 0); // 5
@@ -53,7 +53,7 @@ public final class CleanTest {
     }
 
     private static void repeatedInput() {
-        ShortestCode x = Check.bench(1, 2);
+        ShortestCode x = Bench.of(1, 2);
         x.add(8, 1, 0); // 2: moved by 0 bits, is INPUT 1
         x.add(4, 0, 2); // 3
         check.due("14 one goes", x.clean(), 1);
@@ -61,7 +61,7 @@ public final class CleanTest {
     }
 
     private static void resultIsReplaced() {
-        ShortestCode x = Check.bench(4, 1);
+        ShortestCode x = Bench.of(4, 1);
         x.add(0, 0, 0); // 1
         x.add(0, 1, 0); // 2 is 0
         check.due("14 RESULT is INPUT 0: all go", x.clean(), 2);
@@ -74,7 +74,7 @@ public final class CleanTest {
     }
 
     private static void needlessGoes() {
-        ShortestCode x = Check.bench(3, 2);
+        ShortestCode x = Bench.of(3, 2);
         x.add(5, 0, 1); // 2
         x.add(7, 0, 1); // 3: nobody's
         x.add(6, 2, 1); // 4 is 0
@@ -87,7 +87,7 @@ public final class CleanTest {
     }
 
     private static void needlessChain() {
-        ShortestCode x = Check.bench(4, 2);
+        ShortestCode x = Bench.of(4, 2);
         x.add(5, 0, 1); // 2
         x.add(7, 2, 2); // 3
         x.add(0, 3, 0); // 4
@@ -99,7 +99,7 @@ public final class CleanTest {
 
     /** If the first went before the second, NOT would make RESULT's VALUE, and RESULT be NOT. */
     private static void needlessFromTheLast() {
-        ShortestCode x = Check.bench(4, 2, 15);
+        ShortestCode x = Bench.of(4, 2, 15);
         x.add(5, 0, 1); // 3
         x.add(0, 3, 0); // 4
         x.add(4, 0, 2); // 5
@@ -108,7 +108,7 @@ public final class CleanTest {
     }
 
     private static void neededAsB() {
-        ShortestCode x = Check.bench(4, 2);
+        ShortestCode x = Bench.of(4, 2);
         x.add(7, 0, 1); // 2
         x.add(3, 0, 1); // 3: nobody's
         x.add(6, 0, 2); // 4
@@ -117,7 +117,7 @@ public final class CleanTest {
     }
 
     private static void resultIsGiven() {
-        ShortestCode x = Check.bench(4, 2, 9);
+        ShortestCode x = Bench.of(4, 2, 9);
         x.add(5, 0, 1);
         x.add(6, 3, 2);
         x.result(2);
@@ -131,7 +131,7 @@ public final class CleanTest {
 
     /** A VALUE that nobody needed may still be the least for one that is needed. */
     private static void repeatedBeforeNeedless() {
-        ShortestCode x = Check.bench(4, 2);
+        ShortestCode x = Bench.of(4, 2);
         x.add(5, 0, 1); // 2: needed only instead of 4
         x.add(1, 1, 0); // 3
         x.add(6, 0, 3); // 4 is 2
@@ -141,7 +141,7 @@ public final class CleanTest {
     }
 
     private static void hangingIsByOperands() {
-        ShortestCode x = Check.bench(4, 2);
+        ShortestCode x = Bench.of(4, 2);
         x.add(5, 0, 1); // 2: counts for nothing in 3, and yet RESULT hangs on it
         x.add(4, 2, 2); // 3 is 0 everywhere, but no VALUE before it is
         check.due("14 both stay", x.clean(), 0);
@@ -154,7 +154,7 @@ public final class CleanTest {
     }
 
     private static void twelve() {
-        ShortestCode x = Check.bench(4, 2, 1, 2, 4, 8);
+        ShortestCode x = Bench.of(4, 2, 1, 2, 4, 8);
         for (int i = 0; i < 12; i++) {
             x.add(3, i == 0 ? 0 : 5 + i, i == 0 ? 0 : 5 + i);
         }
@@ -172,7 +172,7 @@ public final class CleanTest {
     }
 
     private static void leavesTheRest() {
-        ShortestCode x = Check.bench(2, 1, 1);
+        ShortestCode x = Bench.of(2, 1, 1);
         x.add(5, 0, 1);
         x.aim();
         check.due("14 search", x.search(1, 100, 0), 1);

@@ -24,33 +24,8 @@ public final class SearchTest {
         check.end();
     }
 
-    /** All OPERATIONS are BARRED but these, told with their COSTS. */
-    private static void only(ShortestCode x, int... costs) {
-        for (int operation = 0; operation < 13; operation++) {
-            x.cost(operation, 0);
-        }
-        for (int i = 0; i < costs.length; i += 2) {
-            x.cost(costs[i], costs[i + 1]);
-        }
-    }
-
-    /** TARGET becomes what one INSTRUCTION makes; THE PROGRAM is empty again. */
-    private static void aimAt(ShortestCode x, int operation, int a, int b) {
-        x.add(operation, a, b);
-        x.aim();
-        x.drop();
-    }
-
-    /** A TARGET that 0, 1 or 2 INSTRUCTIONS behind one INPUT of 4 bits do not make. */
-    private static void aimNowhere(ShortestCode x) {
-        int[] odd = {3, 0, 0, 7, 1, 12, 0, 5, 0, 9, 2, 0, 14, 0, 0, 6};
-        for (int s = 0; s < odd.length; s++) {
-            x.target(s, odd[s]);
-        }
-    }
-
     private static void costZero() {
-        ShortestCode x = Check.bench(3, 2, 6, 0, 0);
+        ShortestCode x = Bench.of(3, 2, 6, 0, 0);
         check.due("15 CONSTANT 0", x.search(0, 0, 0), 0);
         check.told("15 CONSTANT 0", x, 0, 0, 1, 0);
         check.due("15 take()", x.take(), 0);
@@ -78,19 +53,19 @@ public final class SearchTest {
         int[] single = {0, 1, 4, 5, 7, 8, 9, 10, 12};
         int[] tries = {1, 2, 5, 6, 8, 9, 10, 11, 13};
         for (int i = 0; i < single.length; i++) {
-            ShortestCode x = Check.bench(4, 1);
-            aimAt(x, single[i], 0, 0);
+            ShortestCode x = Bench.of(4, 1);
+            Bench.aimAt(x, single[i], 0, 0);
             check.due("15 operation " + single[i], x.search(1, 30000, 0), 1);
             check.told("15 operation " + single[i], x, tries[i], 1, 1, 1);
             check.due("15 take()", x.take(), 1);
             check.program("15 operation " + single[i], x, 1, single[i], 0, 0);
         }
-        ShortestCode x = Check.bench(4, 2, 5);
-        only(x, 6, 1);
+        ShortestCode x = Bench.of(4, 2, 5);
+        Bench.only(x, 6, 1);
         for (int a = 0; a < 3; a++) {
             for (int b = 0; b < 3; b++) {
                 if (a != b) {
-                    aimAt(x, 6, a, b);
+                    Bench.aimAt(x, 6, a, b);
                     check.due("15 by a, then b", x.search(1, 30000, 0), 1);
                     check.due("15 by a, then b", x.told(0), 3 * a + b + 1);
                     x.take();
@@ -105,21 +80,21 @@ public final class SearchTest {
     private static void whatIsNotLookedAt() {
         int[] due = {4, 4, 10, 10, 10, 10, 16, 10, 16, 16, 16, 16, 10};
         for (int operation = 0; operation < 13; operation++) {
-            ShortestCode x = Check.bench(4, 2, 5, 6);
+            ShortestCode x = Bench.of(4, 2, 5, 6);
             x.target(0, 3);
             x.target(200, 11);
-            only(x, operation, 1);
+            Bench.only(x, operation, 1);
             check.due("15 operation " + operation, x.search(1, 30000, 1), -5);
             check.told("15 operation " + operation, x, due[operation], 1, 0, -5);
-            only(x, operation, 2);
+            Bench.only(x, operation, 2);
             check.due("15 dearer than the total", x.search(1, 30000, 1), -5);
             check.told("15 dearer than the total", x, 0, 1, 0, -5);
         }
     }
 
     private static void totals() {
-        ShortestCode x = Check.bench(4, 1);
-        only(x, 0, 2, 1, 3);
+        ShortestCode x = Bench.of(4, 1);
+        Bench.only(x, 0, 2, 1, 3);
         // -(~a) is a + 1; NOT costs 2, NEG 3, so it costs 5.
         x.add(0, 0, 0);
         x.add(1, 1, 0);
@@ -133,7 +108,7 @@ public final class SearchTest {
         check.due("15 two INSTRUCTIONS", x.take(), 2);
         check.program("15 two INSTRUCTIONS", x, 2, 0, 0, 0, 1, 1, 0);
         check.due("15 its COST", x.count(5), 5);
-        only(x, 5, 9);
+        Bench.only(x, 5, 9);
         x.words(4, 1);
         x.add(5, 0, 0);
         x.add(5, 1, 1);
@@ -147,40 +122,40 @@ public final class SearchTest {
 
     /** NOT alone: the second NOT makes INPUT 0 again, and nothing stands behind it. */
     private static void noValueTwice() {
-        ShortestCode x = Check.bench(4, 1);
-        only(x, 0, 1);
-        aimNowhere(x);
+        ShortestCode x = Bench.of(4, 1);
+        Bench.only(x, 0, 1);
+        Bench.aimNowhere(x);
         check.due("15 NOT alone", x.search(5, 30000, 0), -5);
         // Round 1: 1; round 2: NOT 0, then NOT 0, NOT 1: 3; each round later: the same 3.
         check.told("15 NOT alone", x, 13, 5, 0, -5);
         // A CONSTANT that NOT makes of another is a VALUE before it, too.
-        x = Check.bench(1, 1, 0, 1);
+        x = Bench.of(1, 1, 0, 1);
         x.target(0, 0);
         x.target(1, 0);
-        only(x, 0, 1);
+        Bench.only(x, 0, 1);
         check.due("15 COST 0", x.search(2, 100, 0), 0);
-        x = Check.bench(2, 1, 0, 3);
+        x = Bench.of(2, 1, 0, 3);
         x.target(0, 2);
-        only(x, 0, 1);
+        Bench.only(x, 0, 1);
         check.due("15 CONSTANTS", x.search(2, 100, 0), -5);
         // Round 1: 3; round 2: NOT 0 (4 behind it), NOT 1 and NOT 2 make CONSTANTS: 7.
         check.told("15 CONSTANTS", x, 10, 2, 0, -5);
     }
 
     private static void afterOtherWords() {
-        ShortestCode x = Check.bench(4, 1);
-        aimAt(x, 0, 0, 0);
+        ShortestCode x = Bench.of(4, 1);
+        Bench.aimAt(x, 0, 0, 0);
         check.due("15 one INPUT", x.search(1, 100, 0), 1);
         x.words(2, 2);
-        aimAt(x, 6, 1, 0);
+        Bench.aimAt(x, 6, 1, 0);
         check.due("15 two INPUTS", x.search(1, 100, 0), 1);
         // 2 NOT and NEG each, 3 AND, OR, XOR and + each, then - of 0, 0; 0, 1; 1, 0.
         check.told("15 two INPUTS", x, 19, 1, 1, 1);
         x.constant(3);
-        aimAt(x, 6, 2, 0);
+        Bench.aimAt(x, 6, 2, 0);
         check.due("15 a CONSTANT more: it is NOT 0", x.search(1, 100, 0), 1);
         check.told("15 a CONSTANT more: it is NOT 0", x, 1, 1, 1, 1);
-        only(x, 6, 1);
+        Bench.only(x, 6, 1);
         check.due("15 NOT is BARRED", x.search(1, 100, 0), 1);
         check.told("15 NOT is BARRED", x, 7, 1, 1, 1);
         x.take();
@@ -188,7 +163,7 @@ public final class SearchTest {
     }
 
     private static void programIsNotLookedAt() {
-        ShortestCode x = Check.bench(4, 1);
+        ShortestCode x = Bench.of(4, 1);
         x.add(0, 0, 0);
         x.add(1, 1, 0);
         x.aim();
@@ -201,11 +176,11 @@ public final class SearchTest {
     }
 
     private static void first() {
-        ShortestCode x = Check.bench(3, 1);
+        ShortestCode x = Bench.of(3, 1);
         // a + a, a * 2 and a moved by 1 are all the same; the sum stands first.
         x.constant(2);
         x.constant(1);
-        aimAt(x, 8, 0, 2);
+        Bench.aimAt(x, 8, 0, 2);
         check.due("15 the first", x.search(3, 30000, 0), 1);
         // 3 NOT, 3 NEG, 6 AND, 6 OR, 6 XOR, then + of 0, 0.
         check.told("15 the first", x, 25, 1, 1, 1);
@@ -214,32 +189,32 @@ public final class SearchTest {
     }
 
     private static void all() {
-        ShortestCode x = Check.bench(3, 1, 2, 1);
-        aimAt(x, 8, 0, 2);
+        ShortestCode x = Bench.of(3, 1, 2, 1);
+        Bench.aimAt(x, 8, 0, 2);
         check.due("15 ALL", x.search(3, 30000, 1), 1);
         // 3 NOT and NEG each, 6 of six OPERATIONS, 9 of the other five.
         check.told("15 ALL", x, 87, 1, 3, 1);
         x.take();
         check.program("15 the first counts", x, 3, 5, 0, 0);
         // In the round in which it is: all its rows, whatever stands before the last.
-        x = Check.bench(4, 1);
-        only(x, 0, 1, 1, 1);
+        x = Bench.of(4, 1);
+        Bench.only(x, 0, 1, 1, 1);
         x.add(0, 0, 0);
         x.add(1, 1, 0);
         x.aim();
         check.due("15 ALL of round 2", x.search(9, 30000, 1), 2);
         // Round 1: 2. Round 2: NOT 0 and NOT 0, NOT 1, NEG 0, NEG 1; NEG 0 and as many.
         check.told("15 ALL of round 2", x, 12, 2, 1, 2);
-        x = Check.bench(2, 1, 0);
-        only(x, 6, 1, 5, 1);
-        aimAt(x, 1, 0, 0);
+        x = Bench.of(2, 1, 0);
+        Bench.only(x, 6, 1, 5, 1);
+        Bench.aimAt(x, 1, 0, 0);
         check.due("15 0 - a", x.search(5, 30000, 1), 1);
         check.told("15 0 - a", x, 7, 1, 1, 1);
     }
 
     private static void spent() {
-        ShortestCode x = Check.bench(4, 1);
-        aimAt(x, 5, 0, 0);
+        ShortestCode x = Bench.of(4, 1);
+        Bench.aimAt(x, 5, 0, 0);
         check.due("15 5 TRIES", x.search(1, 5, 0), -6);
         check.told("15 5 TRIES", x, 5, 1, 0, -6);
         check.due("15 6 TRIES", x.search(1, 6, 0), 1);
@@ -248,7 +223,7 @@ public final class SearchTest {
         check.told("15 0 TRIES", x, 0, 1, 0, -6);
         check.due("15 0 TRIES, COST 0", x.search(0, 0, 0), -5);
         check.told("15 0 TRIES, COST 0", x, 0, 0, 0, -5);
-        aimNowhere(x);
+        Bench.aimNowhere(x);
         check.due("15 just enough", x.search(1, 13, 0), -5);
         check.told("15 just enough", x, 13, 1, 0, -5);
         check.due("15 one too few", x.search(1, 12, 0), -6);
@@ -262,14 +237,14 @@ public final class SearchTest {
     }
 
     private static void spentAfterFound() {
-        ShortestCode x = Check.bench(4, 1);
-        aimAt(x, 5, 0, 0);
+        ShortestCode x = Bench.of(4, 1);
+        Bench.aimAt(x, 5, 0, 0);
         check.due("15 SPENT behind it", x.search(1, 12, 1), -6);
         check.told("15 SPENT behind it", x, 12, 1, 1, -6);
         check.due("15 and it is not taken", x.take(), -3);
         check.due("15 to the end", x.search(1, 13, 1), 1);
         check.told("15 to the end", x, 13, 1, 1, 1);
-        aimAt(x, 0, 0, 0);
+        Bench.aimAt(x, 0, 0, 0);
         check.due("15 SPENT at once", x.search(1, 1, 1), -6);
         check.told("15 SPENT at once", x, 1, 1, 1, -6);
         check.due("15 what was FOUND before stays", x.take(), 1);
@@ -281,19 +256,19 @@ public final class SearchTest {
      * are gone through first. That a 13th place is not filled shows in no answer that is known here.
      */
     private static void longRows() {
-        ShortestCode x = Check.bench(1, 1);
-        only(x, 12, 1);
+        ShortestCode x = Bench.of(1, 1);
+        Bench.only(x, 12, 1);
         x.target(0, 1);
         // a = a is 1 always, a = 1 is a again: round 1 has 1 TRY, each later one 1 and 3 behind it.
         check.due("15 alike alone", x.search(30, 30000, 0), -5);
         check.told("15 alike alone", x, 1 + 29 * 4, 30, 0, -5);
-        x = Check.bench(4, 1);
-        only(x, 0, 9);
-        aimNowhere(x);
+        x = Bench.of(4, 1);
+        Bench.only(x, 0, 9);
+        Bench.aimNowhere(x);
         // Rounds 1 .. 8: none; 9 .. 17: NOT 0; 18 .. 30: NOT 0 and two behind it.
         check.due("15 NOT for 9", x.search(30, 30000, 0), -5);
         check.told("15 NOT for 9", x, 9 + 13 * 3, 30, 0, -5);
-        only(x, 0, 6, 1, 1);
+        Bench.only(x, 0, 6, 1, 1);
         check.due("15 NOT and NEG in turn", x.search(30, 30000, 1), -5);
         check.told("15 NOT and NEG in turn", x, 27987, 30, 0, -5);
         // Six INSTRUCTIONS, NOT and NEG in turn, each on the one before: a + 3.
@@ -307,8 +282,8 @@ public final class SearchTest {
     }
 
     private static void allBarred() {
-        ShortestCode x = Check.bench(4, 2);
-        only(x);
+        ShortestCode x = Bench.of(4, 2);
+        Bench.only(x);
         x.target(7, 7);
         check.due("15 all BARRED", x.search(7, 0, 0), -5);
         check.told("15 all BARRED", x, 0, 7, 0, -5);
@@ -318,8 +293,8 @@ public final class SearchTest {
     }
 
     private static void outside() {
-        ShortestCode x = Check.bench(4, 1);
-        aimAt(x, 0, 0, 0);
+        ShortestCode x = Bench.of(4, 1);
+        Bench.aimAt(x, 0, 0, 0);
         check.due("15 search", x.search(1, 2, 0), 1);
         int[][] wrong = {
             {-1, 0, 0}, {31, 0, 0}, {MIN, 0, 0}, {MAX, 0, 0},
@@ -336,7 +311,7 @@ public final class SearchTest {
     }
 
     private static void told() {
-        ShortestCode x = Check.bench(4, 1);
+        ShortestCode x = Bench.of(4, 1);
         check.told("16 before any", x, 0, 0, 0, -3);
         x.search(31, 0, 0);
         check.told("16 before any but -2", x, 0, 0, 0, -3);
@@ -344,7 +319,7 @@ public final class SearchTest {
         check.due("16 told(-1)", x.told(-1), -2);
         check.due("16 told(MIN)", x.told(MIN), -2);
         check.due("16 told(MAX)", x.told(MAX), -2);
-        aimAt(x, 1, 0, 0);
+        Bench.aimAt(x, 1, 0, 0);
         x.search(3, 30000, 1);
         check.told("16 the latest", x, 13, 1, 1, 1);
         x.words(2, 2);
@@ -355,9 +330,9 @@ public final class SearchTest {
     }
 
     private static void take() {
-        ShortestCode x = Check.bench(4, 2, 3);
+        ShortestCode x = Bench.of(4, 2, 3);
         check.due("17 nothing yet", x.take(), -3);
-        aimAt(x, 7, 1, 2);
+        Bench.aimAt(x, 7, 1, 2);
         check.due("17 search", x.search(1, 30000, 0), 1);
         x.add(0, 0, 0);
         x.add(0, 1, 0);
