@@ -55,6 +55,8 @@ public final class EdgeTest {
         cleanOfNone();
         cleanOfTwelve();
         cleanKeepsTwelve();
+        cleanToInputZero();
+        cleanTwoAtTheEnd();
         cleanLeastInstructionFirst();
         cleanLeastSuchValue();
         cleanMovesResultDown();
@@ -618,6 +620,38 @@ public final class EdgeTest {
         check.due("14 twelve", x.count(3), 12);
         check.due("14 a + 12", x.value(13, 5), 1);
         check.due("14 RESULT", x.count(4), 13);
+        x = Bench.of(4, 2, 1, 2, 4, 8);
+        for (int i = 0; i < 12; i++) {
+            x.add(5, i == 0 ? 0 : 5 + i, 2);
+        }
+        check.due("14 none of them, with all 18 VALUES", x.clean(), 0);
+        check.due("14 a + 12", x.value(17, 5), 1);
+    }
+
+    private static void cleanToInputZero() {
+        ShortestCode x = Bench.of(4, 2);
+        x.add(6, 1, 0); // 2
+        x.add(6, 1, 2); // 3 is 0
+        x.add(5, 3, 2); // 4 is 1
+        x.add(7, 3, 4); // 5
+        check.due("14 three go", x.clean(), 3);
+        check.program("14 of the INPUTS alone", x, 2, 7, 0, 1);
+    }
+
+    /** What hung on RESULT before something went does not do so for ever. */
+    private static void cleanTwoAtTheEnd() {
+        ShortestCode x = Bench.of(4, 2);
+        x.add(7, 0, 1); // 2
+        x.add(6, 0, 1); // 3: nobody's but 4's
+        x.add(0, 3, 0); // 4: nobody's
+        x.result(2);
+        check.due("14 two go", x.clean(), 2);
+        check.program("14 RESULT's alone", x, 2, 7, 0, 1);
+        x.add(0, 2, 0);
+        x.add(1, 3, 0);
+        x.result(0);
+        check.due("14 another RESULT: three go", x.clean(), 3);
+        check.program("14 another RESULT", x, 0);
     }
 
     /** The later one of two that are alike goes, whichever RESULT is. */

@@ -1,6 +1,6 @@
 import java.util.Random;
 
-/** Many runs of calls, right ones and wrong ones, held against SlowBench; the seeds are fixed. */
+/** Many runs of up to 512 calls, right ones and wrong ones, held against SlowBench; the seeds are fixed. */
 public final class ModelTest {
     private static final Check check = new Check("ModelTest");
     private static final int[] ODD = {-1, -2, -3, 2, 4, 5, 12, 13, 16, 17, 18, 31, 256, 30001, Integer.MIN_VALUE, Integer.MAX_VALUE};
@@ -9,28 +9,41 @@ public final class ModelTest {
     private final ShortestCode fast = new ShortestCode();
     private final SlowBench slow = new SlowBench();
     private final StringBuilder history = new StringBuilder();
+    private int calls = 0;
 
     private ModelTest(long seed) {
         random = new Random(seed);
     }
 
     public static void main(String[] args) {
-        int runs = args.length > 0 ? Integer.parseInt(args[0]) : 400;
+        int runs = args.length > 0 ? Integer.parseInt(args[0]) : 1500;
         for (int seed = 0; seed < runs && check.wrongSoFar() == 0; seed++) {
             new ModelTest(seed).run();
         }
         check.end();
     }
 
+    /** All is asked at the end, as it takes many calls. */
     private void run() {
-        for (int i = 0; i < 60 && check.wrongSoFar() == 0; i++) {
+        int before = random.nextInt(320);
+        begin();
+        while (calls < before && check.wrongSoFar() == 0) {
             step();
-            if (i % 5 == 4) {
-                whole();
-            }
         }
+        whole();
         if (check.wrongSoFar() > 0) {
             System.out.println(history);
+        }
+    }
+
+    private void begin() {
+        if (random.nextInt(3) == 0) {
+            return;
+        }
+        int w = 1 + random.nextInt(4);
+        both("words", w, 1 + random.nextInt(2), 0);
+        for (int i = random.nextInt(6); i > 0; i--) {
+            both("constant", random.nextInt(1 << w), 0, 0);
         }
     }
 
@@ -41,7 +54,7 @@ public final class ModelTest {
                     both("words", odd(1 + random.nextInt(4)), odd(1 + random.nextInt(2)), 0);
                 }
                 break;
-            case 1: both("constant", odd(random.nextInt(fast.count(0) * 2)), 0, 0); break;
+            case 1: both("constant", odd(random.nextInt(slow.call("count", 0, 0, 0) * 2)), 0, 0); break;
             case 2: both("cost", odd(random.nextInt(13)), odd(random.nextInt(4) * random.nextInt(4)), 0); break;
             case 3: both("target", odd(random.nextInt(16)), odd(random.nextInt(3)), 0); break;
             case 4: both("aim", 0, 0, 0); break;
@@ -78,7 +91,8 @@ public final class ModelTest {
     }
 
     private int anyValue() {
-        return random.nextInt(fast.count(1) + fast.count(2) + fast.count(3));
+        int inputs = slow.call("count", 1, 0, 0);
+        return random.nextInt(inputs + slow.call("count", 2, 0, 0) + slow.call("count", 3, 0, 0));
     }
 
     private int odd(int usual) {
@@ -102,9 +116,11 @@ public final class ModelTest {
         for (int what = -1; what < 5; what++) {
             both("told", what, 0, 0);
         }
+        check.holds("no more than 512 calls, not " + calls, calls <= 512);
     }
 
     private void both(String name, int x, int y, int z) {
+        calls++;
         String call = name + "(" + x + ", " + y + ", " + z + ")";
         int got = call(name, x, y, z);
         if (!name.equals("count") && !name.equals("instruction") && !name.equals("value")) {
