@@ -60,6 +60,15 @@ public final class FaceTest {
         return so;
     }
 
+    private static boolean isInFace(String name) {
+        for (String told : FACE) {
+            if (told.startsWith(name + " ")) {
+                return true;
+            }
+        }
+        return false;
+    }
+
     private static boolean isPrivate(Member member) {
         return Modifier.isPrivate(member.getModifiers());
     }
@@ -79,6 +88,7 @@ public final class FaceTest {
             }
             for (Method method : one.getDeclaredMethods()) {
                 check.holds(method + " has at most seven parameters", method.getParameterCount() <= 7);
+                check.holds(method + " bears no public name", one == ShortestCode.class || !isInFace(method.getName()));
             }
         }
     }
